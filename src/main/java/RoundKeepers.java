@@ -101,7 +101,7 @@ public final class RoundKeepers {
             throws IndexOutOfBoundsException, IllegalArgumentException, IllegalStateException {
         Leader who = leaderAt(leader);
         if (!isRoundOf(leader, round) || round <= who.round || !isGroup(group)) {
-            throw new IllegalArgumentException("the round is not the leader's or not above its own, or that is no group");
+            throw new IllegalArgumentException("the round is not the leader's next, or that is no group");
         }
         requireUp(leader);
         groups[round] = group;
@@ -130,7 +130,7 @@ public final class RoundKeepers {
             throws IndexOutOfBoundsException, IllegalArgumentException, IllegalStateException {
         Leader who = leaderAt(leader);
         if (!isRoundOf(leader, ballot) || ballot <= who.keeping.ballot || !isSet(set)) {
-            throw new IllegalArgumentException("the ballot is not the leader's or not above its latest, or that is no set");
+            throw new IllegalArgumentException("the ballot is not the leader's next, or that is no set");
         }
         requireUp(leader);
         who.keeping.startReform(ballot, set);

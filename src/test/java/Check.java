@@ -106,6 +106,13 @@ final class Check {
         };
     }
 
+    /** Begins a round and lets all messages come: the leader leads then. */
+    static void lead(Face x, int leader, int round, int group) {
+        x.begin(leader, round, group);
+        x.run(2000);
+        due(x, "leader " + leader + " 0", 3);
+    }
+
     static void end() {
         System.out.println(asked + " checks, " + wrong + " wrong");
         if (wrong != 0) {

@@ -9,25 +9,20 @@ public final class CollectTest {
         voterKnowsMore();
         voterRefusesKnow();
         keepersOfOtherGeneration();
+        goingOnWhileCollecting();
         watermarkHidesEntries();
         releasedWhenIdle();
         wrongInputs();
         Check.end();
     }
 
-    private static void lead(Face x, int leader, int round, int group) {
-        x.begin(leader, round, group);
-        x.run(2000);
-        Check.due(x, "leader " + leader + " 0", 3);
-    }
-
     private static Face twoRounds() {
         Face x = new Real();
-        lead(x, 0, 0, 7);
+        Check.lead(x, 0, 0, 7);
         x.propose(0, 5);
         x.propose(0, 6);
         x.run(100);
-        lead(x, 1, 1, 56);
+        Check.lead(x, 1, 1, 56);
         return x;
     }
 
@@ -53,7 +48,7 @@ public final class CollectTest {
     private static void knownSlotsAreSettled() {
         Face x = twoRounds();
         Check.dues(x, "collect 1 = true", "run 100 = 18");
-        lead(x, 2, 2, 448);
+        Check.lead(x, 2, 2, 448);
         Check.dues(x, "leader 2 5 = 1", "leader 2 6 = 2", "leader 2 7 = 2", "leader 2 8 = 2", "leader 2 9 = 2",
                 "slot 2 0 0 = 4", "slot 2 0 1 = -1", "slot 2 1 0 = 4", "slot 2 1 2 = 0", "slot 2 2 0 = 0",
                 "voter 6 2 = 0", "propose 2 8 = 2", "run 100 = 12", "leader 2 9 = 3", "agreed 2 = 8",
@@ -84,7 +79,7 @@ public final class CollectTest {
     /** KNOWN with a number of an earlier collecting is not noted. */
     private static void numbersMustFit() {
         Face x = new Real();
-        lead(x, 0, 0, 7);
+        Check.lead(x, 0, 0, 7);
         Check.dues(x, "collect 0 = true", "run 3 = 3", "propose 0 5 = 0", "deliver 3 = 5", "deliver 3 = 5",
                 "deliver 4 = 6", "deliver 4 = 6", "slot 0 0 0 = 2", "deliver 4 = 7", "deliver 4 = 7", "deliver 5 = 8",
                 "deliver 5 = 8", "leader 0 9 = 1", "collect 0 = true", "leader 0 10 = 1", "run 3 = 3",
@@ -96,12 +91,12 @@ public final class CollectTest {
     /** A voter that knows more stays with it and answers the number that it was told. */
     private static void voterKnowsMore() {
         Face x = new Real();
-        lead(x, 0, 0, 1);
+        Check.lead(x, 0, 0, 1);
         Check.dues(x, "collect 0 = true", "propose 0 5 = 0", "twice 0 = 3", "run 2 = 2", "lose 0 = 9");
         x.run(100);
         Check.dues(x, "leader 0 9 = 1", "leader 0 10 = 3", "collect 0 = true", "run 1 = 1", "voter 0 1 = 1");
         x = new Real();
-        lead(x, 0, 0, 1);
+        Check.lead(x, 0, 0, 1);
         Check.dues(x, "collect 0 = true", "propose 0 5 = 0", "deliver 1 = 5", "deliver 1 = 6", "deliver 1 = 7",
                 "deliver 1 = 7", "deliver 2 = 8", "deliver 2 = 8", "leader 0 9 = 1", "collect 0 = true",
                 "message 2 4 = 1", "deliver 2 = 9", "voter 0 1 = 1", "deliver 0 = 9", "voter 0 1 = 1",
@@ -111,7 +106,7 @@ public final class CollectTest {
 
     private static void voterRefusesKnow() {
         Face x = twoRounds();
-        lead(x, 2, 2, 7);
+        Check.lead(x, 2, 2, 7);
         Check.dues(x, "collect 1 = true", "run 3 = 3", "message 0 0 = 24", "message 0 1 = 3", "message 0 2 = 1",
                 "message 0 3 = 1", "message 0 4 = 2", "voter 3 1 = 0", "run 1 = 1", "leader 1 0 = 0",
                 "leader 1 10 = 1", "collect 1 = false", "run 100 = 2", "leader 1 10 = 1");
@@ -130,7 +125,17 @@ public final class CollectTest {
                 "count 0 = 0", "leader 1 10 = 2");
     }
 
-    /** Round 4's keepers 0 and 1 know that round 1 was let go, keeper 2 does not: the WATERMARK tells. */
+    /** Keeper 0 of the old set was noted already: with the new set two others are needed. */
+    private static void goingOnWhileCollecting() {
+        Face x = twoRounds();
+        Check.dues(x, "collect 1 = true", "run 6 = 6", "deliver 0 = 11", "deliver 2 = 12", "leader 1 10 = 2",
+                "lose 0 = 11", "lose 0 = 11", "reform 0 0 56 = 3", "run 99 = 24", "again 1 = 2", "run 4 = 4",
+                "leader 1 3 = 1", "leader 1 10 = 2", "again 1 = 3", "deliver 0 = 11", "deliver 2 = 12",
+                "leader 1 10 = 2", "leader 1 5 = 1", "deliver 0 = 11", "deliver 1 = 12", "leader 1 10 = 3",
+                "leader 1 5 = 0");
+    }
+
+    /** Round 2's keepers 0 and 1 know that round 1 was let go, keeper 2 does not: the WATERMARK tells. */
     private static void watermarkHidesEntries() {
         Face x = twoRounds();
         Check.dues(x, "collect 1 = true", "run 6 = 6", "run 2 = 2", "lose 0 = 11", "run 100 = 8", "keeper 0 3 = 1",
