@@ -13,6 +13,16 @@ final class State {
         return Arrays.copyOf(s.answers, s.size);
     }
 
+    /** The same without the air, and without the counts of what is in it and what came out of it. */
+    static int[] ofNodes(Face x) {
+        State s = new State();
+        for (int what : new int[] {1, 3, 4, 5}) {
+            s.add(x.count(what));
+        }
+        s.readNodes(x);
+        return Arrays.copyOf(s.answers, s.size);
+    }
+
     private void add(int answer) {
         if (size == answers.length) {
             answers = Arrays.copyOf(answers, size * 2);
@@ -25,6 +35,10 @@ final class State {
             add(x.count(what));
         }
         readAir(x);
+        readNodes(x);
+    }
+
+    private void readNodes(Face x) {
         readLeaders(x);
         readKeepers(x);
         for (int voter = 0; voter < 12; voter++) {

@@ -1,0 +1,142 @@
+/** The document's edges, sentence by sentence: 6 WHAT IS TRUE. */
+public final class EdgeTruthTest {
+    public static void main(String[] args) {
+        votesOfOneRound();
+        eachAtSomeTime();
+        theGroupOfThatRound();
+        theFirstStays();
+        eachSlotForItself();
+        oneVoterOnce();
+        agreedBeforeAnyoneKnows();
+        Check.end();
+    }
+
+    /** "in some round a majority": two voters of three, but in two rounds, are none. */
+    private static void votesOfOneRound() {
+        Face x = new Real();
+        Check.lead(x, 0, 0, 7);
+        Check.due(x, "propose 0 9", 0);
+        Play.come(x, "VOTE 0>0");
+        Play.loseAll(x);
+        Check.dues(x, "begin 1 1 7 = 3", "run 6 = 6");
+        Play.come(x, "ASK 1>0", "ASK 1>1", "ASKED 0>1", "ASKED 1>1");
+        Check.dues(x, "leader 1 0 = 3", "slot 1 0 1 = 9");
+        Play.come(x, "VOTE 1>1");
+        Check.dues(x, "vote 0 0 true = 9", "vote 1 0 true = 9", "agreed 0 = -1");
+        Play.come(x, "VOTE 1>2");
+        Check.due(x, "agreed 0", 9);
+    }
+
+    /** "has voted for it, each at some time": voter 0's vote of round 0 was let go before voter 1 votes in round 0. */
+    private static void eachAtSomeTime() {
+        Face x = new Real();
+        Check.lead(x, 0, 0, 7);
+        Check.due(x, "propose 0 9", 0);
+        Play.come(x, "VOTE 0>0");
+        Check.due(x, "begin 1 1 1024", 6);
+        Play.come(x, "MATCH 1>0", "MATCH 1>1", "MATCHED 0>1", "MATCHED 1>1", "ASK 1>0", "ASK 1>2", "ASKED 0>1", "ASKED 2>1");
+        Check.dues(x, "leader 1 0 = 3", "slot 1 0 1 = 9");
+        Play.come(x, "VOTE 1>10", "VOTED 10>1", "TELL 1>0", "TELL 1>1", "TOLD 0>1", "TOLD 1>1");
+        Check.dues(x, "agreed 0 = 9", "collect 1 = true");
+        Play.come(x, "KNOW 1>10", "KNOWN 10>1", "COLLECT 1>0", "COLLECT 1>1", "COLLECTED 0>1", "COLLECTED 1>1", "RELEASE 1>0");
+        Check.dues(x, "voter 0 2 = 0", "vote 0 0 true = -1", "agreed 0 = 9");
+        Play.come(x, "VOTE 0>1");
+        Check.dues(x, "vote 1 0 false = 0", "agreed 0 = 9", "count 4 = 0");
+        replacedByALaterVote();
+    }
+
+    /** Voter 0 votes in round 0, then in round 1, which is of another group; then voter 1 votes in round 0. */
+    private static void replacedByALaterVote() {
+        Face x = new Real();
+        Check.lead(x, 0, 0, 7);
+        Check.due(x, "propose 0 9", 0);
+        Play.come(x, "VOTE 0>0");
+        Check.due(x, "begin 1 1 49", 6);
+        Play.come(x, "MATCH 1>0", "MATCH 1>1", "MATCHED 0>1", "MATCHED 1>1", "ASK 1>0", "ASK 1>2", "ASKED 0>1", "ASKED 2>1",
+                "VOTE 1>0");
+        Check.dues(x, "vote 0 0 false = 1", "agreed 0 = -1");
+        Play.come(x, "VOTE 0>1");
+        Check.dues(x, "agreed 0 = 9", "vote 0 0 false = 1", "vote 1 0 false = 0");
+    }
+
+    /** "of that round's group (with which it was begun)": 2 of 3 in round 0; in round 1 the group has 5, and 2 are not enough. */
+    private static void theGroupOfThatRound() {
+        Face x = new Real();
+        Check.lead(x, 0, 0, 7);
+        Check.due(x, "propose 0 9", 0);
+        Check.due(x, "begin 0 3 31", 6);
+        Play.come(x, "VOTE 0>0");
+        Check.due(x, "agreed 0", -1);
+        Play.come(x, "VOTE 0>1");
+        Check.dues(x, "agreed 0 = 9", "leader 0 2 = 31");
+        Face y = new Real();
+        Check.lead(y, 0, 0, 31);
+        Check.due(y, "propose 0 9", 0);
+        Check.due(y, "begin 0 3 1", 8);
+        Play.come(y, "VOTE 0>0", "VOTE 0>4");
+        Check.due(y, "agreed 0", -1);
+        Play.come(y, "VOTE 0>3");
+        Check.due(y, "agreed 0", 9);
+    }
+
+    /** "The value AGREED first": round 1 agrees on the same once more, which is no BREACH. */
+    private static void theFirstStays() {
+        Face x = new Real();
+        Check.lead(x, 0, 0, 1);
+        Check.dues(x, "propose 0 9 = 0", "run 99 = 8", "agreed 0 = 9");
+        Check.lead(x, 1, 1, 2);
+        Check.dues(x, "vote 1 0 true = 9", "agreed 0 = 9", "count 4 = 0", "count 3 = 0");
+    }
+
+    /** The voters 7 and 8 of five vote for all slots, voter 11 slot by slot: each slot is AGREED when its own third vote comes. */
+    private static void eachSlotForItself() {
+        Face x = new Real();
+        Check.lead(x, 2, 299, 3968);
+        for (int slot = 0; slot < 16; slot++) {
+            x.propose(2, 500 + slot);
+        }
+        for (int slot = 0; slot < 16; slot++) {
+            Play.come(x, "VOTE 2>7", "VOTE 2>8");
+        }
+        for (int slot = 0; slot < 16; slot++) {
+            Check.due(x, "agreed " + slot, -1);
+        }
+        for (int done = 0; done < 16; done++) {
+            Play.come(x, "VOTE 2>11");
+            for (int slot = 0; slot < 16; slot++) {
+                Check.due(x, "agreed " + slot, slot <= done ? 500 + slot : -1);
+            }
+        }
+        Check.due(x, "count 4", 0);
+    }
+
+    /** A voter that votes twice is one. */
+    private static void oneVoterOnce() {
+        Face x = new Real();
+        Check.lead(x, 0, 0, 3);
+        Check.due(x, "propose 0 9", 0);
+        Play.twice(x, "VOTE 0>1");
+        Play.twice(x, "VOTE 0>1");
+        Play.come(x, "VOTE 0>1", "VOTE 0>1", "VOTE 0>1");
+        Check.due(x, "agreed 0", -1);
+        Play.come(x, "VOTE 0>0");
+        Check.due(x, "agreed 0", 9);
+    }
+
+    /** It is AGREED with the votes, not with what the leader hears of them; a vote that is refused is none. */
+    private static void agreedBeforeAnyoneKnows() {
+        Face x = new Real();
+        Check.lead(x, 0, 0, 3);
+        Check.dues(x, "propose 0 9 = 0", "up 0 0 false = true");
+        Play.come(x, "VOTE 0>0", "VOTE 0>1");
+        Check.dues(x, "agreed 0 = 9", "slot 0 0 0 = 1", "run 9 = 2", "slot 0 0 0 = 1", "agreed 0 = 9");
+        Face y = new Real();
+        Check.lead(y, 0, 0, 1);
+        Check.dues(y, "propose 0 9 = 0", "begin 1 1 1 = 4");
+        Play.come(y, "MATCH 1>0", "MATCH 1>1", "MATCHED 0>1", "MATCHED 1>1", "ASK 1>0", "VOTE 0>0");
+        Check.dues(y, "agreed 0 = -1", "voter 0 2 = 0");
+        Face z = new Real();
+        Check.lead(z, 0, 0, 1);
+        Check.dues(z, "propose 0 9 = 0", "up 2 0 false = true", "run 9 = 1", "agreed 0 = -1", "voter 0 2 = 0");
+    }
+}
