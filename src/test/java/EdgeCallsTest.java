@@ -31,7 +31,10 @@ public final class EdgeCallsTest {
         Check.end();
     }
 
-    /** Promise 2: "the round is not the leader's, or not above its ROUND, or that is no group"; how many messages are in the air then. */
+    /**
+     * Promise 2: "the round is not the leader's, or not above its ROUND, or that is no group"; how many messages are in
+     * the air then.
+     */
     private static void begin() {
         Face x = new Real();
         Check.argument(x, "begin 1 0 1", "begin 1 2 1", "begin 1 3 1", "begin 1 1 0", "begin 1 -2 1", "begin 1 301 1");
@@ -79,7 +82,8 @@ public final class EdgeCallsTest {
     /** Promise 5: "the ballot is not the leader's (as a round), or not above its latest one, or that is no set" */
     private static void reform() {
         Face x = new Real();
-        Check.argument(x, "reform 2 0 7", "reform 2 1 7", "reform 2 -1 7", "reform 2 302 7", "reform 2 2 6", "reform 2 2 15");
+        Check.argument(x, "reform 2 0 7", "reform 2 1 7", "reform 2 -1 7", "reform 2 302 7", "reform 2 2 6",
+                "reform 2 2 15");
         Check.dues(x, "reform 2 2 7 = 3", "reform 1 1 7 = 6", "leader 2 12 = 7");
         Check.argument(x, "reform 2 2 7", "reform 2 2 56", "reform 2 -1 7");
         Check.dues(x, "reform 2 5 448 = 9", "leader 2 12 = 448");
@@ -144,7 +148,8 @@ public final class EdgeCallsTest {
     private static void twice() {
         Face x = new Real();
         Check.index(x, "twice 0", "twice -1", "twice " + LOW, "twice " + HIGH);
-        Check.dues(x, "begin 0 0 1 = 3", "twice 2 = 4", "message 3 2 = 2", "message 2 2 = 2", "twice 0 = 5", "message 4 2 = 0");
+        Check.dues(x, "begin 0 0 1 = 3", "twice 2 = 4", "message 3 2 = 2", "message 2 2 = 2", "twice 0 = 5",
+                "message 4 2 = 0");
         Check.index(x, "twice 5", "twice -1");
         while (x.count(0) < 400) {
             x.twice(1);
@@ -152,6 +157,21 @@ public final class EdgeCallsTest {
         Check.dues(x, "count 1 = 0", "twice 0 = 400", "count 1 = 1", "message 399 2 = 1");
         Check.index(x, "twice 400");
         Check.dues(x, "lose 399 = 1", "twice 0 = 400", "message 399 2 = 0", "count 1 = 1", "count 2 = 0");
+        twiceWithAPick();
+    }
+
+    /** All that is told with it is copied: no PICK as NONE and 0, and one of ballot 3 as that. */
+    private static void twiceWithAPick() {
+        Face x = new Real();
+        Check.dues(x, "begin 2 2 1 = 3", "run 99 = 6", "reform 0 3 56 = 3", "deliver 2 = 16", "twice 2 = 4");
+        Play.all(x, "message 2", 17, 2, 0, 0, 3, 0, 1, -1, 0);
+        Play.all(x, "message 3", 17, 2, 0, 0, 3, 0, 1, -1, 0);
+        Check.dues(x, "lose 3 = 17", "run 11 = 11");
+        Play.come(x, "PICK 0>0");
+        Play.loseAll(x);
+        Check.dues(x, "reform 1 4 448 = 3", "deliver 0 = 16", "twice 2 = 4");
+        Play.all(x, "message 2", 17, 0, 1, 0, 4, 0, 1, 3, 56);
+        Play.all(x, "message 3", 17, 0, 1, 0, 4, 0, 1, 3, 56);
     }
 
     /** Promise 11: "whether it was UP" */
@@ -172,6 +192,34 @@ public final class EdgeCallsTest {
         }
         Check.index(x, "up -1 0 true", "up 4 0 true", "up " + LOW + " 0 false", "up " + HIGH + " 0 false", "up -1 -1 true",
                 "up 4 -1 true");
+        upFromNowOn();
+        eachSortForItself();
+    }
+
+    /** "A node is UP or DOWN from now on": what it sent before comes, and what was sent to it comes when it is UP again. */
+    private static void upFromNowOn() {
+        Face x = new Real();
+        Check.dues(x, "begin 1 1 2 = 3", "up 0 1 false = true", "up 1 1 false = true");
+        Play.come(x, "MATCH 1>0");
+        Check.dues(x, "keeper 0 3 = 1", "up 0 1 true = false", "up 1 1 true = false", "up 1 0 false = true");
+        Play.come(x, "MATCHED 0>1");
+        Check.due(x, "leader 1 0", 1);
+        Play.come(x, "MATCH 1>1", "MATCHED 1>1");
+        Check.dues(x, "leader 1 0 = 3", "count 1 = 0", "count 2 = 4");
+    }
+
+    /** "Sorts: 0 leaders, 1 keepers, 2 voters, 3 copies": one of them is DOWN, those of the same number are not. */
+    private static void eachSortForItself() {
+        for (int down = 0; down < 4; down++) {
+            Face x = new Real();
+            Check.due(x, "up " + down + " 1 false", true);
+            for (int sort = 0; sort < 4; sort++) {
+                Check.due(x, "up " + sort + " 1 " + (sort != down), sort != down);
+            }
+            Check.dues(x, "begin 0 0 2 = 3", "run 99 = " + (down == 1 ? 5 : 6), "count 1 = " + (down == 1 ? 1 : 0),
+                    "propose 0 5 = 0", "run 99 = " + (down == 2 ? 1 : down == 3 ? 7 : 8),
+                    "count 1 = " + (down == 0 ? 0 : 1), "copy 1 0 = " + (down < 2 ? 5 : -1));
+        }
     }
 
     /** Promise 12: "what = 0 its kind [..] 8 the set of its PICK" */
@@ -304,7 +352,8 @@ public final class EdgeCallsTest {
         for (int i = 0; i < rounds.length; i++) {
             Check.dues(x, "entry 2 " + i + " false = " + rounds[i], "entry 2 " + i + " true = " + (1 << i));
         }
-        Check.index(x, "entry 2 11 false", "entry 2 11 true", "entry 2 12 true", "entry 2 -1 false", "entry 2 " + LOW + " true",
+        Check.index(x, "entry 2 11 false", "entry 2 11 true", "entry 2 12 true", "entry 2 -1 false",
+                "entry 2 " + LOW + " true",
                 "entry 2 " + HIGH + " true");
         Play.tells(x, "MATCHED 2>2", 0, 32, 0, 2);
         Play.tells(x, "MATCHED 2>0", 0, 0, 0, 0);
@@ -407,15 +456,18 @@ public final class EdgeCallsTest {
             {},
             {"begin 0 0 1", "deliver 0", "deliver 2", "begin 1 1 2", "reform 2 2 56"},
             {"begin 0 0 7", "run 99", "propose 0 5", "run 3", "begin 1 1 8", "run 9", "reform 0 0 56", "run 4"},
-            {"begin 0 0 1", "run 99", "propose 0 5", "run 99", "collect 0", "run 99", "propose 0 6", "begin 1 4 2", "run 12"},
+            {"begin 0 0 1", "run 99", "propose 0 5", "run 99", "collect 0", "run 99", "propose 0 6", "begin 1 4 2",
+                    "run 12"},
             {"begin 2 299 1", "run 99", "propose 2 5", "run 99", "collect 2", "run 99", "reform 2 299 56", "run 9"},
-            {"reform 0 0 56", "run 12", "deliver 0", "reform 1 1 448", "run 4", "up 0 0 false", "up 1 0 false", "up 2 0 false"},
+            {"reform 0 0 56", "run 12", "deliver 0", "reform 1 1 448", "run 4", "up 0 0 false", "up 1 0 false",
+                    "up 2 0 false"},
             {"begin 1 298 31", "run 99", "collect 1", "run 13", "reform 1 1 56", "run 99", "reform 1 4 7", "run 10"}};
         String[][] afters = {
             {"begin 0 0 3", "again 0", "run 4", "leader 0 0", "run 99", "propose 0 9", "propose 0 8", "run 99", "collect 0",
                 "run 99", "begin 1 1 4", "run 99", "again 1", "propose 1 3", "run 99"},
             {"reform 2 2 56", "again 2", "run 5", "leader 2 11", "run 99", "begin 0 0 1", "run 99", "again 0", "run 99"},
-            {"again 0", "again 1", "again 2", "propose 0 1", "collect 1", "begin 1 1 2048", "deliver 0", "twice 0", "run 3"}};
+            {"again 0", "again 1", "again 2", "propose 0 1", "collect 1", "begin 1 1 2048", "deliver 0", "twice 0",
+                    "run 3"}};
         for (String[] before : befores) {
             for (String[] after : afters) {
                 Face x = new Real();
@@ -433,18 +485,24 @@ public final class EdgeCallsTest {
         }
     }
 
-    /** "Methods throw what their comments name, the one named first when several would do [..] A call that throws changes nothing." */
+    /**
+     * "Methods throw what their comments name, the one named first when several would do [..] A call that throws
+     * changes nothing."
+     */
     private static void theFirstNamed() {
         Face x = new Real();
-        Check.dues(x, "begin 0 3 1 = 3", "reform 0 3 56 = 6", "up 0 0 false = true", "up 0 1 false = true", "up 0 2 false = true");
+        Check.dues(x, "begin 0 3 1 = 3", "reform 0 3 56 = 6", "up 0 0 false = true", "up 0 1 false = true",
+                "up 0 2 false = true");
         for (int leader : new int[] {-1, 3, LOW, HIGH}) {
             Check.index(x, "begin " + leader + " 1 0", "begin " + leader + " 6 1", "propose " + leader + " 0",
-                    "propose " + leader + " 1", "collect " + leader, "reform " + leader + " 1 0", "reform " + leader + " 6 7",
+                    "propose " + leader + " 1", "collect " + leader, "reform " + leader + " 1 0",
+                    "reform " + leader + " 6 7",
                     "again " + leader);
         }
         Check.argument(x, "begin 0 3 1", "begin 0 0 1", "begin 0 4 1", "begin 0 6 0", "begin 0 300 1", "propose 0 0",
                 "propose 0 1000001", "propose 1 0", "reform 0 3 7", "reform 0 4 7", "reform 0 6 3", "reform 0 300 7");
-        Check.state(x, "begin 0 6 1", "propose 0 1", "propose 1 1", "collect 0", "collect 1", "reform 0 6 7", "again 0", "again 1");
+        Check.state(x, "begin 0 6 1", "propose 0 1", "propose 1 1", "collect 0", "collect 1", "reform 0 6 7", "again 0",
+                "again 1");
         Check.dues(x, "up 0 0 true = false", "begin 0 6 1 = 9", "reform 0 6 7 = 12", "again 0 = 6", "propose 0 1 = -1",
                 "collect 0 = false");
     }

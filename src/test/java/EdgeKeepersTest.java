@@ -285,7 +285,10 @@ public final class EdgeKeepersTest {
         }
     }
 
-    /** "the PICK of the greatest ballot [..] its set is WANTED now": 56 of ballot 0 at keeper 0, 448 of ballot 1 at keeper 1. */
+    /**
+     * "the PICK of the greatest ballot [..] its set is WANTED now": 56 of ballot 0 at keeper 0, 448 of ballot 1 at
+     * keeper 1.
+     */
     private static void greatestPick() {
         String[][] orders = {{"STOPPED 0>2", "STOPPED 1>2"}, {"STOPPED 1>2", "STOPPED 0>2"}};
         for (String[] order : orders) {
@@ -309,7 +312,10 @@ public final class EdgeKeepersTest {
         }
     }
 
-    /** "SEED [..] to a keeper that is OFF [..]: it is READY, of that generation and with that set, has that watermark, those entries" */
+    /**
+     * "SEED [..] to a keeper that is OFF [..]: it is READY, of that generation and with that set, has that watermark,
+     * those entries"
+     */
     private static void seedWhenOff() {
         Face x = unlikeKeepers();
         Check.due(x, "reform 0 0 448", 3);
@@ -448,7 +454,8 @@ public final class EdgeKeepersTest {
         Play.come(x, PICKED_BY_TWO);
         Play.come(x, "MOVED 0>3", "MOVED 0>4");
         Check.due(x, "reform 0 3 224", 10);
-        Play.come(x, "STOP 0>3", "STOP 0>4", "STOPPED 3>0", "STOPPED 4>0", "SEED 0>6", "SEED 0>7", "SEEDED 6>0", "SEEDED 7>0");
+        Play.come(x, "STOP 0>3", "STOP 0>4", "STOPPED 3>0", "STOPPED 4>0", "SEED 0>6", "SEED 0>7", "SEEDED 6>0",
+                "SEEDED 7>0");
         Check.due(x, "leader 0 11", 2);
         Play.nothing(x, "SEEDED 5>0");
         Check.due(x, "leader 0 11", 2);
@@ -499,7 +506,7 @@ public final class EdgeKeepersTest {
         Play.tells(x, "PICKED 1>0", 0, 0);
     }
 
-    /** "ballot and set are its PICK, and its ballot that": keeper 2 promised ballot 0, PICK has ballot 4; then 1 is below. */
+    /** "ballot and set are its PICK, and its ballot that": keeper 2 had ballot 0, PICK has 4; then 2 is below. */
     private static void pickAboveItsBallot() {
         Face x = new Real();
         Check.dues(x, "reform 0 0 56 = 3", "reform 2 2 56 = 6");
@@ -623,7 +630,8 @@ public final class EdgeKeepersTest {
         Face x = picking();
         Play.loseAll(x);
         Check.due(x, "reform 1 1 200", 3);
-        Play.come(x, "STOP 1>0", "STOP 1>1", "STOPPED 0>1", "STOPPED 1>1", "SEED 1>6", "SEED 1>7", "SEEDED 6>1", "SEEDED 7>1");
+        Play.come(x, "STOP 1>0", "STOP 1>1", "STOPPED 0>1", "STOPPED 1>1", "SEED 1>6", "SEED 1>7", "SEEDED 6>1",
+                "SEEDED 7>1");
         Play.twice(x, "SEED 1>3");
         Play.come(x, "SEED 1>3", "SEEDED 3>1", "PICK 1>0", "PICK 1>1", "PICKED 0>1", "PICKED 1>1");
         Check.due(x, "leader 1 4", 200);
@@ -643,7 +651,8 @@ public final class EdgeKeepersTest {
         Check.due(x, "keeper 3 0", 1);
         Play.loseAll(x);
         Check.due(x, "reform 0 3 56", 3);
-        Play.come(x, "STOP 0>0", "STOP 0>1", "STOPPED 0>0", "STOPPED 1>0", "SEED 0>4", "SEED 0>5", "SEEDED 4>0", "SEEDED 5>0");
+        Play.come(x, "STOP 0>0", "STOP 0>1", "STOPPED 0>0", "STOPPED 1>0", "SEED 0>4", "SEED 0>5", "SEEDED 4>0",
+                "SEEDED 5>0");
         Play.twice(x, "SEED 0>3");
         Play.come(x, "SEED 0>3", "SEEDED 3>0", "PICK 0>0", "PICK 0>1", "PICKED 0>0", "PICKED 1>0");
         Check.due(x, "leader 0 4", 56);

@@ -22,6 +22,7 @@ public final class EdgeLettingGoTest {
         twoKeepers();
         releaseToAllVotersOfHistory();
         votesOfLowerRoundsGo();
+        releaseAndPromised();
         releasedThatIsNotWaitedFor();
         releasedWhenIdle();
         Check.end();
@@ -420,7 +421,10 @@ public final class EdgeLettingGoTest {
         Check.dues(y, "leader 2 5 = 0", "leader 2 13 = 0");
     }
 
-    /** "its votes of lower rounds go": those of the same round and of higher ones stay, and so do what it PROMISED and KNOWS. */
+    /**
+     * "its votes of lower rounds go": those of the same round and of higher ones stay, and so do what it PROMISED and
+     * KNOWS.
+     */
     private static void votesOfLowerRoundsGo() {
         Face x = new Real();
         Check.lead(x, 0, 0, 3);
@@ -455,6 +459,28 @@ public final class EdgeLettingGoTest {
         Play.tells(x, "RELEASED 0>1", 1, 0, 0);
         Check.dues(x, "vote 0 0 false = -1", "vote 0 0 true = -1", "vote 0 1 false = 1", "vote 0 2 false = 2",
                 "voter 0 2 = 2", "voter 0 0 = 2", "voter 0 1 = 2");
+    }
+
+    /** RELEASE says nothing of PROMISED: below it, it is not REFUSED; above it, it promises nothing. */
+    private static void releaseAndPromised() {
+        Face x = new Real();
+        Check.lead(x, 0, 0, 7);
+        Check.dues(x, "propose 0 5 = 0", "run 99 = 12", "begin 1 1 56 = 3", "run 6 = 6");
+        Play.lose(x, "ASK 1>2");
+        Check.dues(x, "run 99 = 16", "leader 1 0 = 3", "collect 1 = true", "run 12 = 12", "voter 0 0 = 1", "voter 2 0 = 0",
+                "voter 2 2 = 1");
+        Play.air(x, "RELEASE 1>0", "RELEASE 1>1", "RELEASE 1>2");
+        Play.come(x, "RELEASE 1>2");
+        Check.dues(x, "voter 2 0 = 0", "voter 2 2 = 0");
+        Play.air(x, "RELEASE 1>0", "RELEASE 1>1", "RELEASED 2>1");
+        Face y = collecting();
+        Check.due(y, "begin 2 2 64", 6);
+        Play.come(y, "MATCH 2>0", "MATCH 2>1", "MATCHED 0>2", "MATCHED 1>2", "ASK 2>0", "COLLECT 1>0", "COLLECT 1>1",
+                "COLLECTED 0>1", "COLLECTED 1>1");
+        Play.loseAllBut(y, "RELEASE 1>0");
+        Check.dues(y, "voter 0 0 = 2", "voter 0 2 = 2", "run 1 = 1", "voter 0 0 = 2", "voter 0 2 = 0");
+        Play.air(y, "RELEASED 0>1");
+        Play.tells(y, "RELEASED 0>1", 1, 0, 0, 0);
     }
 
     /** "STAGE 3, its ROUND being that: it notes the voter": in another stage or round it is nothing. */

@@ -242,7 +242,10 @@ public final class EdgeNodesTest {
                 "vote 1 1 true = 0", "vote 1 2 true = 1000000", "vote 1 2 false = 1", "copy 2 2 = 1000000");
     }
 
-    /** "the one of number 0 are the keepers 0, 1, 2, which are ON, of generation 0, at first; all others are OFF, of no generation (NONE)" */
+    /**
+     * "the one of number 0 are the keepers 0, 1, 2, which are ON, of generation 0, at first; all others are OFF, of no
+     * generation (NONE)"
+     */
     private static void firstGeneration() {
         Face x = new Real();
         for (int keeper = 0; keeper < 9; keeper++) {

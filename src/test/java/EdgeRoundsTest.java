@@ -4,6 +4,7 @@ public final class EdgeRoundsTest {
         beginForgetsKeepersWatermarkAndEntries();
         beginForgetsVotesAndKnown();
         beginForgetsSlotsAndCollecting();
+        anotherGroup();
         belowTheWatermark();
         belowAnEntrysRound();
         greatestOfEntriesAndWatermark();
@@ -22,6 +23,7 @@ public final class EdgeRoundsTest {
         askBelowPromised();
         allVotesAreTold();
         askedThatIsNotWaitedFor();
+        majorityOfEachGroup();
         greatestKnown();
         voteOfTheGreatestRound();
         base();
@@ -104,6 +106,17 @@ public final class EdgeRoundsTest {
         Play.all(x, "slot 1 0", 4, -1, 0, 0);
         Check.dues(x, "again 1 = 0", "propose 1 6 = 1");
         Play.all(x, "slot 1 1", 1, 6, 0, 0);
+    }
+
+    /**
+     * "if the round has an entry with another group": no call leads there, since a round has one leader, who begins it
+     * once; a second time, with the same group or another, is refused, and the entry stays.
+     */
+    private static void anotherGroup() {
+        Face x = new Real();
+        Check.dues(x, "begin 0 3 1 = 3", "run 1 = 1");
+        Check.argument(x, "begin 0 3 2", "begin 0 3 1", "begin 1 3 2", "begin 2 3 2");
+        Check.dues(x, "entry 0 0 false = 3", "entry 0 0 true = 1");
     }
 
     /** "if the round [..] has none and is below the WATERMARK [..]: NO": 5 is below 6; 6 is not, nor is 7. */
@@ -451,6 +464,22 @@ public final class EdgeRoundsTest {
         Play.nothing(x, "ASKED 0>1");
     }
 
+    /** "When of each group of its HISTORY a majority is noted": of {0, 1, 2} and {2, 3}, where voter 2 is in both. */
+    private static void majorityOfEachGroup() {
+        String[][] orders = {{"2", "3", "0"}, {"3", "2", "1"}, {"0", "1", "2", "3"}, {"0", "3", "2"}};
+        for (String[] order : orders) {
+            Face x = new Real();
+            Check.lead(x, 0, 0, 7);
+            Check.lead(x, 1, 1, 12);
+            Check.dues(x, "begin 2 2 1024 = 3", "run 6 = 6", "leader 2 5 = 2");
+            for (String voter : order) {
+                Check.due(x, "leader 2 0", 2);
+                Play.come(x, "ASK 2>" + voter, "ASKED " + voter + ">2");
+            }
+            Check.due(x, "leader 2 0", 3);
+        }
+    }
+
     /** "the greatest number KNOWN": voter 0 knows 2, voter 1 knows 1, in whichever order they answer. */
     private static void greatestKnown() {
         for (int first = 0; first < 2; first++) {
@@ -557,6 +586,18 @@ public final class EdgeRoundsTest {
                 "voter 1 2 = 1", "begin 2 2 4 = 3", "run 99 = 8");
         Play.all(x, "leader 2", 3, 2, 4, 0, 7, 1, 3, 3, 3, 3, 0, 0, 0, 2);
         Check.due(x, "count 0", 0);
+        knownWithoutVotes(x);
+    }
+
+    /** The same; voter 2 gets to know of the 3 slots and has no vote: BASE is 3 then, for the number KNOWN alone. */
+    private static void knownWithoutVotes(Face x) {
+        Check.dues(x, "collect 2 = true", "run 99 = 10");
+        Play.all(x, "voter 2", 2, 3, 0);
+        Check.dues(x, "begin 0 3 8 = 3", "run 99 = 8");
+        Play.all(x, "leader 0", 3, 3, 8, 0, 7, 1, 3, 3, 3, 3, 0, 0, 0, 4);
+        Check.dues(x, "slot 0 2 0 = 4", "slot 0 3 0 = 0", "propose 0 9 = 3", "run 99 = 8", "leader 0 9 = 4");
+        Check.lead(x, 1, 4, 16);
+        Play.all(x, "leader 1", 3, 4, 16, 0, 7, 2, 4, 4, 3, 4, 0, 0, 0, 12);
     }
 
     /** "VOTE [..] The round is below what it PROMISED: REFUSED [..] Else it is PROMISED": below, the same, above. */

@@ -8,6 +8,7 @@ public final class EdgeTruthTest {
         eachSlotForItself();
         oneVoterOnce();
         agreedBeforeAnyoneKnows();
+        noBreachAndNoClash();
         Check.end();
     }
 
@@ -38,7 +39,8 @@ public final class EdgeTruthTest {
         Check.dues(x, "leader 1 0 = 3", "slot 1 0 1 = 9");
         Play.come(x, "VOTE 1>10", "VOTED 10>1", "TELL 1>0", "TELL 1>1", "TOLD 0>1", "TOLD 1>1");
         Check.dues(x, "agreed 0 = 9", "collect 1 = true");
-        Play.come(x, "KNOW 1>10", "KNOWN 10>1", "COLLECT 1>0", "COLLECT 1>1", "COLLECTED 0>1", "COLLECTED 1>1", "RELEASE 1>0");
+        Play.come(x, "KNOW 1>10", "KNOWN 10>1", "COLLECT 1>0", "COLLECT 1>1", "COLLECTED 0>1", "COLLECTED 1>1",
+                "RELEASE 1>0");
         Check.dues(x, "voter 0 2 = 0", "vote 0 0 true = -1", "agreed 0 = 9");
         Play.come(x, "VOTE 0>1");
         Check.dues(x, "vote 1 0 false = 0", "agreed 0 = 9", "count 4 = 0");
@@ -59,7 +61,7 @@ public final class EdgeTruthTest {
         Check.dues(x, "agreed 0 = 9", "vote 0 0 false = 1", "vote 1 0 false = 0");
     }
 
-    /** "of that round's group (with which it was begun)": 2 of 3 in round 0; in round 1 the group has 5, and 2 are not enough. */
+    /** "of that round's group (with which it was begun)": also when the leader has begun another round meanwhile. */
     private static void theGroupOfThatRound() {
         Face x = new Real();
         Check.lead(x, 0, 0, 7);
@@ -88,7 +90,10 @@ public final class EdgeTruthTest {
         Check.dues(x, "vote 1 0 true = 9", "agreed 0 = 9", "count 4 = 0", "count 3 = 0");
     }
 
-    /** The voters 7 and 8 of five vote for all slots, voter 11 slot by slot: each slot is AGREED when its own third vote comes. */
+    /**
+     * The voters 7 and 8 of five vote for all slots, voter 11 slot by slot: each slot is AGREED when its own third vote
+     * comes.
+     */
     private static void eachSlotForItself() {
         Face x = new Real();
         Check.lead(x, 2, 299, 3968);
@@ -138,5 +143,27 @@ public final class EdgeTruthTest {
         Face z = new Real();
         Check.lead(z, 0, 0, 1);
         Check.dues(z, "propose 0 9 = 0", "up 2 0 false = true", "run 9 = 1", "agreed 0 = -1", "voter 0 2 = 0");
+    }
+
+    /**
+     * "(There is none; no CLASH either.)": leader 0 has one vote of three for 5, leader 1 hears of none and gets 6
+     * agreed; what leader 0 sent and sends again is refused, and leader 2 finds 6. (ModelTest has many more.)
+     */
+    private static void noBreachAndNoClash() {
+        Face x = new Real();
+        Check.lead(x, 0, 0, 7);
+        Check.due(x, "propose 0 5", 0);
+        Play.come(x, "VOTE 0>0");
+        Check.due(x, "begin 1 1 7", 6);
+        Play.come(x, "MATCH 1>0", "MATCH 1>1", "MATCHED 0>1", "MATCHED 1>1", "ASK 1>1", "ASK 1>2", "ASKED 1>1", "ASKED 2>1");
+        Check.dues(x, "leader 1 0 = 3", "leader 1 6 = 0", "propose 1 6 = 0");
+        Play.come(x, "VOTE 1>1", "VOTE 0>1", "VOTE 0>2");
+        Check.dues(x, "again 0 = 3", "agreed 0 = -1");
+        Play.come(x, "VOTE 1>2");
+        Check.due(x, "agreed 0", 6);
+        x.run(2000);
+        Check.dues(x, "leader 0 0 = 0", "agreed 0 = 6", "copy 0 0 = 6", "copy 1 0 = 6", "copy 2 0 = 6", "vote 0 0 true = 6");
+        Check.lead(x, 2, 2, 56);
+        Check.dues(x, "slot 2 0 1 = 6", "agreed 0 = 6", "count 3 = 0", "count 4 = 0");
     }
 }
