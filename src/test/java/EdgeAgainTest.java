@@ -115,13 +115,13 @@ public final class EdgeAgainTest {
     /** "CHOSEN, and not STORED: TELL to those copies that are not noted": and no VOTE, though a voter is not noted. */
     private static void chosen() {
         Face x = new Real();
-        Check.lead(x, 0, 0, 7);
-        Check.due(x, "propose 0 7", 0);
-        Play.come(x, "VOTE 0>0", "VOTE 0>1", "VOTED 0>0", "VOTED 1>0");
-        again(x, 0, "TELL 0>0", "TELL 0>1", "TELL 0>2");
-        Play.tells(x, "TELL 0>2", 0, 7, 0, 0);
-        Play.come(x, "TELL 0>1", "TOLD 1>0");
-        again(x, 0, "TELL 0>0", "TELL 0>2");
+        Check.lead(x, 2, 2, 7);
+        Check.due(x, "propose 2 7", 0);
+        Play.come(x, "VOTE 2>0", "VOTE 2>1", "VOTED 0>2", "VOTED 1>2");
+        again(x, 2, "TELL 2>0", "TELL 2>1", "TELL 2>2");
+        Play.tells(x, "TELL 2>2", 0, 7, 0, 0);
+        Play.come(x, "TELL 2>1", "TOLD 1>2");
+        again(x, 2, "TELL 2>0", "TELL 2>2");
     }
 
     /** With two copies noted it is STORED, so nothing is sent to the third, nor to a voter that is not noted. */

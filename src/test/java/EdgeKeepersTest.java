@@ -440,7 +440,22 @@ public final class EdgeKeepersTest {
         Play.come(x, "MOVED 0>3", "MOVED 0>4", "MOVED 0>0", "MOVED 0>1");
         Check.due(x, "reform 0 3 35", 9);
         Play.nothing(x, "SEEDED 3>0");
+        seededWhileStopping();
         seededOfAnotherGeneration();
+    }
+
+    /** Leader 0 was SEEDING before and begins anew: SEEDED of that time is no STOPPED. */
+    private static void seededWhileStopping() {
+        Face x = new Real();
+        Check.due(x, "reform 0 0 56", 3);
+        Play.come(x, STOPPED_BY_TWO);
+        Play.come(x, "SEED 0>3");
+        Check.due(x, "reform 0 3 56", x.count(0) + 3);
+        Play.nothing(x, "SEEDED 3>0");
+        Play.loseAll(x);
+        Check.due(x, "again 0", 3);
+        Play.come(x, "STOP 0>2", "STOPPED 2>0");
+        Check.due(x, "leader 0 11", 1);
     }
 
     /** Leader 0 is SEEDING for generation 2 when the three SEEDED of generation 1 come once more. */
@@ -713,6 +728,19 @@ public final class EdgeKeepersTest {
         Play.come(x, "MOVED 0>0");
         Check.due(x, "keeper 0 0", 2);
         stoppedOfGenerationTwo();
+        stoppedInTheSetItWasMovedTo();
+    }
+
+    /** Keeper 3 serves in generation 1, with the set 3, 4, 5, and is STOPPED; MOVED to that very set comes again. */
+    private static void stoppedInTheSetItWasMovedTo() {
+        Face x = moving();
+        Play.twice(x, "MOVED 0>3");
+        Check.due(x, "run 6", 6);
+        Check.dues(x, "keeper 3 0 = 2", "reform 0 3 448 = 4");
+        Play.come(x, "STOP 0>3");
+        Check.due(x, "keeper 3 0", 3);
+        Play.nothing(x, "MOVED 0>3");
+        Play.all(x, "keeper 3", 3, 1, 0, 0, 3, -1, 0, 0);
     }
 
     private static void stoppedOfGenerationTwo() {

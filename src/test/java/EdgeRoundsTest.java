@@ -29,6 +29,7 @@ public final class EdgeRoundsTest {
         base();
         baseOfSixteen();
         settledSlots();
+        knownAboveAVote();
         voteBelowPromised();
         laterVoteIsItsVote();
         votedThatIsNotWaitedFor();
@@ -330,13 +331,15 @@ public final class EdgeRoundsTest {
     /** "its generation being that": keeper 0 of generation 0 had matched it, then it learned of generation 1. */
     private static void matchedOfAnotherGeneration() {
         Face x = new Real();
-        Check.dues(x, "begin 1 1 1 = 3");
+        Check.lead(x, 2, 2, 1);
+        Check.dues(x, "begin 1 4 1 = 3");
         Play.come(x, "MATCH 1>0", "MATCH 1>1");
         Check.dues(x, "reform 0 0 56 = 6");
         Play.come(x, "STOP 0>0", "STOP 0>1", "STOP 0>2", "STOPPED 0>0", "STOPPED 1>0", "SEED 0>3", "SEED 0>4", "SEED 0>5",
                 "SEEDED 3>0", "SEEDED 4>0", "SEEDED 5>0", "PICK 0>0", "PICK 0>1", "PICKED 0>0", "PICKED 1>0", "MOVED 0>2");
         Play.come(x, "MATCH 1>2", "GONE 2>1");
         Check.dues(x, "leader 1 3 = 1", "leader 1 0 = 1");
+        Play.tells(x, "MATCHED 0>1", 0, 4, 0, 1);
         Play.nothing(x, "MATCHED 0>1");
         Play.nothing(x, "MATCHED 1>1");
         Check.due(x, "again 1", 3);
@@ -598,6 +601,26 @@ public final class EdgeRoundsTest {
         Check.dues(x, "slot 0 2 0 = 4", "slot 0 3 0 = 0", "propose 0 9 = 3", "run 99 = 8", "leader 0 9 = 4");
         Check.lead(x, 1, 4, 16);
         Play.all(x, "leader 1", 3, 4, 16, 0, 7, 2, 4, 4, 3, 4, 0, 0, 0, 12);
+    }
+
+    /** Voter 0 KNOWS 2 slots and has a vote for slot 0 alone, of round 0: BASE is 2, and slot 0 is not proposed again. */
+    private static void knownAboveAVote() {
+        Face x = new Real();
+        Check.lead(x, 0, 0, 7);
+        Check.dues(x, "propose 0 5 = 0", "propose 0 6 = 1");
+        Play.come(x, "VOTE 0>0");
+        Play.lose(x, "VOTE 0>0");
+        x.run(2000);
+        Check.dues(x, "voter 0 2 = 1", "leader 0 9 = 2");
+        Check.lead(x, 1, 1, 8);
+        Check.dues(x, "collect 1 = true", "run 8 = 8");
+        Play.loseAll(x);
+        Check.lead(x, 2, 2, 1);
+        Check.dues(x, "leader 2 8 = 2", "collect 2 = true", "run 99 = 10");
+        Play.all(x, "voter 0", 2, 2, 1);
+        Check.dues(x, "vote 0 0 false = 0", "begin 0 3 16 = 3", "run 99 = 8");
+        Play.all(x, "leader 0", 3, 3, 16, 0, 7, 1, 2, 2, 2, 2, 0, 0, 0, 1);
+        Check.dues(x, "slot 0 0 0 = 4", "slot 0 1 0 = 4", "propose 0 9 = 2");
     }
 
     /** "VOTE [..] The round is below what it PROMISED: REFUSED [..] Else it is PROMISED": below, the same, above. */

@@ -110,6 +110,11 @@ final class Play {
         if (k < 0) {
             return;
         }
+        Face getting = ((Real) x).twin();
+        Face losing = ((Real) x).twin();
+        getting.deliver(k);
+        losing.lose(k);
+        Check.that(told + " is as if it had been lost, also later", goOnAlike(getting, losing));
         int[] before = State.ofNodes(x);
         int inAir = x.count(0);
         int came = x.count(2);
@@ -117,6 +122,19 @@ final class Play {
         Check.that(told + " came", x.count(2) == came + 1);
         Check.that("no message was sent at " + told, x.count(0) == inAir - 1);
         Check.that("nothing changed at " + told, Arrays.equals(before, State.ofNodes(x)));
+    }
+
+    /** What a node noted in secret would show here: all is sent again, and comes, one by one. */
+    private static boolean goOnAlike(Face one, Face other) {
+        boolean alike = true;
+        for (int leader = 0; leader < 3; leader++) {
+            alike &= Check.answer(one, "again " + leader).equals(Check.answer(other, "again " + leader));
+        }
+        for (int i = 0; i < 60 && alike; i++) {
+            alike = one.run(1) == other.run(1) && one.count(0) == other.count(0)
+                    && Arrays.equals(State.ofNodes(one), State.ofNodes(other));
+        }
+        return alike;
     }
 
     static void all(Face x, String call, int... due) {
