@@ -1531,6 +1531,8 @@ public final class RoundKeepers {
         /** Who ever voted in a round for a slot, four slots a word to keep the object small. */
         private final long[] voted = new long[ROUNDS * WORDS_OF_ROUND];
         final int[] first = new int[SLOTS];
+        /** The slots with more than one value AGREED, as bits: there each value has another one beside it. */
+        private int apart;
         int breaches;
 
         Tally(int[] groups) {
@@ -1540,6 +1542,7 @@ public final class RoundKeepers {
         void reset() {
             Arrays.fill(voted, 0L);
             Arrays.fill(first, NONE);
+            apart = 0;
             breaches = 0;
         }
 
@@ -1561,7 +1564,8 @@ public final class RoundKeepers {
         private void agree(int slot, int value) {
             if (first[slot] == NONE) {
                 first[slot] = value;
-            } else if (first[slot] != value) {
+            } else if (first[slot] != value || (apart >> slot & 1) != 0) {
+                apart |= 1 << slot;
                 breaches++;
             }
         }

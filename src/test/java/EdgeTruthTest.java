@@ -9,6 +9,9 @@ public final class EdgeTruthTest {
         oneVoterOnce();
         agreedBeforeAnyoneKnows();
         noBreachAndNoClash();
+        aBreach();
+        aClash();
+        theFirstAgainBesideAnother();
         Check.end();
     }
 
@@ -147,7 +150,7 @@ public final class EdgeTruthTest {
 
     /**
      * "(There is none; no CLASH either.)": leader 0 has one vote of three for 5, leader 1 hears of none and gets 6
-     * agreed; what leader 0 sent and sends again is refused, and leader 2 finds 6. (ModelTest has many more.)
+     * agreed; what leader 0 sent and sends again is refused, and leader 2 finds 6. (For where there is one: aBreach.)
      */
     private static void noBreachAndNoClash() {
         Face x = new Real();
@@ -165,5 +168,93 @@ public final class EdgeTruthTest {
         Check.dues(x, "leader 0 0 = 0", "agreed 0 = 6", "copy 0 0 = 6", "copy 1 0 = 6", "copy 2 0 = 6", "vote 0 0 true = 6");
         Check.lead(x, 2, 2, 56);
         Check.dues(x, "slot 2 0 1 = 6", "agreed 0 = 6", "count 3 = 0", "count 4 = 0");
+    }
+
+    /**
+     * Leader 0 leads in round 3 with voter 0, leader 2 in round 2 with voter 1, and neither asked the other's voter.
+     *
+     * <p>Of 0, 1, 2 only keeper 1 has the entry of round 2, only the keepers 0 and 2 that of round 3. The keepers 3, 4, 5
+     * are seeded with both (kind 17: "with all entries noted"). So MATCH of round 2 finds its own entry there: it is
+     * neither one "with another group" nor "has none", and though there is an entry of round 3 the answer is MATCHED,
+     * "with its entries of lower rounds" alone.
+     */
+    private static Face twoThatLeadApart() {
+        Face x = new Real();
+        Check.dues(x, "begin 2 2 2 = 3", "begin 0 3 1 = 6");
+        Play.come(x, "MATCH 2>1", "MATCH 0>0", "MATCH 0>2", "MATCHED 0>0", "MATCHED 2>0");
+        Play.loseAll(x);
+        Check.dues(x, "leader 0 0 = 3", "leader 0 5 = 0", "leader 2 0 = 1");
+        Check.dues(x, "reform 2 2 56 = 3", "run 300 = 24", "leader 2 3 = 1", "leader 2 0 = 1");
+        Check.dues(x, "keeper 3 0 = 2", "keeper 3 3 = 2", "entry 3 0 false = 2", "entry 3 1 false = 3");
+        Check.due(x, "again 2", 3);
+        Play.come(x, "MATCH 2>3", "MATCH 2>4");
+        Play.tells(x, "MATCHED 3>2", 1, 2, 0, 0);
+        Play.come(x, "MATCHED 3>2", "MATCHED 4>2");
+        Play.loseAll(x);
+        Check.dues(x, "leader 2 0 = 3", "leader 2 5 = 0", "keeper 3 3 = 2", "count 3 = 0", "count 4 = 0");
+        return x;
+    }
+
+    /**
+     * "BREACHES: how often a value was AGREED for a slot that has another one AGREED." The brackets behind it say that
+     * there is none, but the words of the kinds bring this one about; it is counted as the sentence says.
+     */
+    private static void aBreach() {
+        Face x = twoThatLeadApart();
+        Check.dues(x, "propose 2 6 = 0", "propose 0 7 = 0", "propose 0 8 = 1");
+        Play.come(x, "VOTE 2>1");
+        Check.dues(x, "agreed 0 = 6", "count 4 = 0");
+        Play.come(x, "VOTE 0>0");
+        Check.dues(x, "agreed 0 = 6", "count 4 = 1", "vote 0 0 true = 7");
+        Check.due(x, "again 0", 2);
+        Play.come(x, "VOTE 0>0", "VOTE 0>0");
+        Check.dues(x, "agreed 0 = 6", "agreed 1 = 8", "count 4 = 1", "count 3 = 0");
+        x.clear();
+        Check.lead(x, 0, 0, 1);
+        Check.dues(x, "propose 0 7 = 0", "run 9 = 8", "agreed 0 = 7", "count 4 = 0");
+        Face y = twoThatLeadApart();
+        Check.dues(y, "propose 2 6 = 0", "propose 0 6 = 0");
+        Play.come(y, "VOTE 2>1", "VOTE 0>0");
+        Check.dues(y, "agreed 0 = 6", "count 4 = 0");
+    }
+
+    /**
+     * "it has that value for the slot, if it has none; TOLD, with the value that it has. If that is another one: a
+     * CLASH." And of TOLD: "the slot being CHOSEN for it, with that value".
+     */
+    private static void aClash() {
+        Face x = twoThatLeadApart();
+        Check.dues(x, "propose 2 6 = 0", "propose 0 7 = 0");
+        Play.come(x, "VOTE 2>1", "VOTED 1>2", "VOTE 0>0", "VOTED 0>0", "TELL 2>0", "TELL 2>1", "TELL 0>2");
+        Check.dues(x, "copy 0 0 = 6", "copy 1 0 = 6", "copy 2 0 = 7", "count 3 = 0");
+        Play.come(x, "TELL 0>0");
+        Check.dues(x, "copy 0 0 = 6", "count 3 = 1");
+        Play.tells(x, "TOLD 0>0", 0, 6, 0, 0);
+        Play.nothing(x, "TOLD 0>0");
+        Check.dues(x, "slot 0 0 0 = 2", "slot 0 0 3 = 0");
+        Play.come(x, "TOLD 2>0");
+        Check.dues(x, "slot 0 0 3 = 4", "slot 0 0 0 = 2", "again 0 = 2");
+        Play.come(x, "TELL 0>0", "TELL 0>1");
+        Check.dues(x, "count 3 = 3", "copy 0 0 = 6", "copy 1 0 = 6");
+        Play.come(x, "TOLD 0>2", "TOLD 1>2", "TELL 2>2");
+        Check.dues(x, "slot 2 0 0 = 3", "slot 2 0 3 = 3", "count 3 = 4", "copy 2 0 = 7", "count 4 = 1");
+        x.clear();
+        Check.due(x, "count 3", 0);
+    }
+
+    /** "a slot that has another one AGREED": so has it also when the first value is AGREED once more, in a third round. */
+    private static void theFirstAgainBesideAnother() {
+        Face x = new Real();
+        Check.dues(x, "begin 1 1 4 = 3", "begin 2 2 2 = 6", "begin 0 3 1 = 9");
+        Play.come(x, "MATCH 1>1", "MATCH 2>1", "MATCH 0>0", "MATCH 0>2", "MATCHED 0>0", "MATCHED 2>0");
+        Play.loseAll(x);
+        Check.dues(x, "reform 2 2 56 = 3", "run 300 = 24", "keeper 4 3 = 3");
+        Check.dues(x, "again 1 = 3", "run 6 = 6", "leader 1 3 = 1", "again 1 = 3", "run 6 = 6", "leader 1 0 = 3");
+        Check.dues(x, "propose 1 6 = 0", "propose 0 7 = 0");
+        Play.come(x, "VOTE 1>2", "VOTE 0>0");
+        Play.loseAll(x);
+        Check.dues(x, "agreed 0 = 6", "count 4 = 1", "again 2 = 3", "run 8 = 8", "leader 2 0 = 3", "slot 2 0 1 = 6");
+        Play.come(x, "VOTE 2>1");
+        Check.dues(x, "agreed 0 = 6", "count 4 = 2");
     }
 }

@@ -102,7 +102,7 @@ final class Model implements Face {
     Map<Integer, Integer> groupOfRound;
     Map<String, Set<Integer>> everVoted;
     Set<String> reached;
-    Map<Integer, Integer> agreedFirst;
+    Map<Integer, List<Integer>> agreedValues;
 
     Model() {
         clear();
@@ -135,7 +135,7 @@ final class Model implements Face {
         groupOfRound = new HashMap<>();
         everVoted = new HashMap<>();
         reached = new HashSet<>();
-        agreedFirst = new HashMap<>();
+        agreedValues = new HashMap<>();
     }
 
     static Set<Integer> nodes(int bits) {
@@ -516,10 +516,11 @@ final class Model implements Face {
         Set<Integer> who = everVoted.computeIfAbsent(which, w -> new TreeSet<>());
         who.add(voter);
         if (majority(who, groupOfRound.get(round)) && reached.add(which)) {
-            Integer before = agreedFirst.putIfAbsent(slot, value);
-            if (before != null && before != value) {
+            List<Integer> before = agreedValues.computeIfAbsent(slot, s -> new ArrayList<>());
+            if (before.stream().anyMatch(other -> other != value)) {
                 breaches++;
             }
+            before.add(value);
         }
     }
 
@@ -824,7 +825,7 @@ final class Model implements Face {
 
     public int agreed(int slot) {
         index(in(slot, 0, 15));
-        return agreedFirst.getOrDefault(slot, -1);
+        return agreedValues.containsKey(slot) ? agreedValues.get(slot).get(0) : -1;
     }
 
     public int count(int what) {

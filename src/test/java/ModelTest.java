@@ -1,14 +1,20 @@
+import java.util.ArrayDeque;
 import java.util.Arrays;
+import java.util.Deque;
+import java.util.List;
 import java.util.Random;
 
 /**
  * Long mixed runs of calls, the same ones on the class and on the model: all answers and all states must be
- * the same, no value may be AGREED beside another, no copies may clash. The seeds are written, so each run
- * is the same run.
+ * the same. The seeds are written, so each run is the same run. Some runs open with the calls after which two
+ * leaders lead without knowing of each other (see EdgeTruthTest.aBreach), as no dice would find them.
  */
 public final class ModelTest {
     private static final int RUNS = 1200;
     private static final int CALLS = 300;
+    private static final int AIR_FULL = 25;
+    private static final int CLASHED = 26;
+    private static final int BREACHED = 27;
 
     private final Random random;
     private final Face real = new Real();
@@ -22,6 +28,7 @@ public final class ModelTest {
     private final int stride;
     /** Whether this run fills the air. */
     private final boolean floods;
+    private final Deque<String> opening = new ArrayDeque<>();
     private int highest = -1;
     private int lastBallot = -1;
 
@@ -33,19 +40,31 @@ public final class ModelTest {
         haste = 1 + random.nextInt(3);
         stride = random.nextBoolean() ? 4 : 30;
         floods = random.nextInt(12) == 0;
+        if (!floods && seed % 8 == 7) {
+            openApart();
+        }
+    }
+
+    private void openApart() {
+        opening.addAll(List.of("begin 2 2 " + someGroup(), "begin 0 3 " + someGroup(), "deliver 1", "lose 0", "lose 0",
+                "lose 1", "run 5", "reform 2 2 56", "run 300", "again 2", "run 6"));
+        highest = 3;
+        lastBallot = 2;
     }
 
     public static void main(String[] args) {
         int first = args.length > 0 ? Integer.parseInt(args[0]) : 0;
         int runs = args.length > 1 ? Integer.parseInt(args[1]) : RUNS;
-        long[] reached = new long[26];
+        long[] reached = new long[28];
         for (int seed = first; seed < first + runs; seed++) {
             new ModelTest(seed).play(seed, reached);
         }
         for (int kind = 1; kind <= 24; kind++) {
             Check.that("messages of kind " + kind + " came", reached[kind] > 0);
         }
-        Check.that("the air was full", reached[25] > 0);
+        Check.that("the air was full", reached[AIR_FULL] > 0);
+        Check.that("there were CLASHES", reached[CLASHED] > 0);
+        Check.that("there were BREACHES", reached[BREACHED] > 0);
         Check.end();
     }
 
@@ -58,9 +77,11 @@ public final class ModelTest {
             if (call.startsWith("deliver") && !want.startsWith("throws")) {
                 reached[Integer.parseInt(want)]++;
             }
-            reached[25] += real.count(0) == 400 ? 1 : 0;
+            reached[AIR_FULL] += real.count(0) == 400 ? 1 : 0;
+            reached[CLASHED] += real.count(3);
+            reached[BREACHED] += real.count(4);
             boolean fine = got.equals(want) && Arrays.equals(State.of(real), State.of(model));
-            if (!fine || real.count(3) != 0 || real.count(4) != 0) {
+            if (!fine) {
                 Check.that("seed " + seed + " after\n" + told + "answered " + got + ", due is " + want, false);
                 return;
             }
@@ -68,6 +89,9 @@ public final class ModelTest {
     }
 
     private String nextCall() {
+        if (!opening.isEmpty()) {
+            return opening.remove();
+        }
         int air = real.count(0);
         int leader = random.nextInt(3);
         if (floods && random.nextInt(3) > 0) {
