@@ -212,6 +212,8 @@ public final class EdgeTruthTest {
         x.clear();
         Check.lead(x, 0, 0, 1);
         Check.dues(x, "propose 0 7 = 0", "run 9 = 8", "agreed 0 = 7", "count 4 = 0");
+        Check.lead(x, 1, 1, 2);
+        Check.dues(x, "vote 1 0 true = 7", "count 4 = 0");
         Face y = twoThatLeadApart();
         Check.dues(y, "propose 2 6 = 0", "propose 0 6 = 0");
         Play.come(y, "VOTE 2>1", "VOTE 0>0");
